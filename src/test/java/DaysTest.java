@@ -112,6 +112,8 @@ public final class DaysTest {
         check.due("10: times of 2", x.stung(0, 2, 0, 0), 1);
         check.due("10: hurts of 2", x.stung(0, 2, 0, 1), 0);
         check.due("10: not in 1", x.stung(0, 1, 0, 2), -2);
+        check.due("10: none in 0", x.stung(0, 0, 0, 0), 0);
+        check.due("10: no first in 0", x.stung(0, 0, 0, 2), -2);
         check.due("10: another's times", x.stung(0, 24, 1, 0), 1);
         check.due("10: another's first", x.stung(0, 24, 1, 2), 5);
         check.due("10: never", x.stung(0, 24, 2, 0), 0);
@@ -122,6 +124,8 @@ public final class DaysTest {
         check.due("10: what -1", x.stung(0, 24, 0, -1), -1);
         check.due("10: n 25", x.stung(0, 25, 0, 0), -1);
         check.due("10: n -1", x.stung(0, -1, 0, 0), -1);
+        Check.bytes(x, 0, 2);
+        check.due("10: nothing of the longer day ahead", x.stung(0, 24, 0, 0), 0);
         x.say(2, 1);
         x.mend(0, 5, 20);
         Check.bytes(x, 0, 0, 0, 0);
@@ -154,7 +158,11 @@ public final class DaysTest {
         check.due("12: loud", x.soon(1), 4);
         check.due("12: -1", x.soon(-1), -1);
         check.due("12: 3", x.soon(3), -1);
+        Check.law(x, "1");
         x.say(1, 1);
+        check.due("12: the liar himself", x.soon(1), 3);
+        Check.law(x, "0");
+        check.due("12: the liar's lie that is not loud", x.soon(1), -2);
         Check.law(x, "n=0");
         check.due("12: n from 0", x.soon(0) >= 0 ? 1 : 0, 1);
     }
@@ -219,6 +227,9 @@ public final class DaysTest {
         check.due("14: of none", x.orders(0, -1), 0);
         check.due("14: quiet of none", x.orders(0, -2), 1);
         check.due("14: the first of none", x.orders(0, 0), -2);
+        x.mend(0, 4, 4);
+        x.say(0, 1);
+        check.due("14: what hurt in deed is no thought's", x.led(4), 1);
         Check.bytes(x, 0, 0, 0, 0, 0, 0, 0, 0);
         check.due("14: 7 true ones", x.orders(0, -2), 5040);
         check.due("14: 7 true ones", x.orders(0, 6), 6);

@@ -165,6 +165,25 @@ public final class DeedsTest {
         check.due("26: newcomers as they are", x.of(2, 0), 8);
         check.due("26: newcomers as they are", x.of(2, 2), 1);
         check.due("26: newcomers stay", x.count(0), 3);
+        BeesSting y = two();
+        y.mend(0, 4, 0);
+        y.say(1, 1);
+        y.image();
+        y.person(0x09);
+        y.person(0x0A);
+        y.say(0, 1);
+        y.back();
+        check.due("26: the liar of the image", y.led(5), 1);
+        y.say(2, 1);
+        check.due("26: the first newcomer is the liar", y.led(5), 2);
+        y.back();
+        check.due("26: nobody is, whoever was in the image", y.led(5), -2);
+        y.say(3, 1);
+        y.back();
+        check.due("26: nor behind another newcomer", y.led(5), -2);
+        BeesSting none = new BeesSting();
+        check.due("25: of nobody", none.image(), 0);
+        check.due("26: of nobody", none.back(), 0);
     }
 
     private static void undo() {
@@ -241,12 +260,41 @@ public final class DeedsTest {
         }
         for (int left = 39; left >= 0; left--) {
             check.due("27: 40 at most", x.undo(), left);
+            check.due("27: each as it was", x.of(0, 0), 105 + left);
         }
         check.due("27: no more", x.undo(), -5);
         check.due("27: the oldest is not kept", x.of(0, 0), 105);
         for (int left = 39; left >= 0; left--) {
             check.due("28: 40 again", x.redo(), left);
+            check.due("28: each as it became", x.of(0, 0), 145 - left);
         }
-        check.due("28: as it became", x.of(0, 0), 145);
+        // the oldest gives way to the latest with its number and what it told, too
+        x.mend(1, 3, 1);
+        x.mend(0, 7, 9);
+        for (int i = 0; i < 39; i++) {
+            x.mend(i % 2, i % 4, 2 + i % 7);
+        }
+        int[] before = numbers(x);
+        int undone = x.count(2);
+        for (int i = 0; i < undone; i++) {
+            x.undo();
+        }
+        check.due("27: another's", x.of(1, 3), 1);
+        check.due("27: the last that is kept", x.of(0, 7), undone == 40 ? 4 : 9);
+        for (int i = 0; i < undone; i++) {
+            x.redo();
+        }
+        int[] behind = numbers(x);
+        for (int i = 0; i < before.length; i++) {
+            check.due("28: all as they were, " + i, behind[i], before[i]);
+        }
+    }
+
+    private static int[] numbers(BeesSting x) {
+        int[] all = new int[12];
+        for (int i = 0; i < 12; i++) {
+            all[i] = i < 8 ? x.of(i / 4, i % 4) : x.of(0, i - 4);
+        }
+        return all;
     }
 }

@@ -70,6 +70,10 @@ public final class PeopleTest {
         check.due("3: i behind it", x.people(1, 11, 3), 0);
         check.due("3: ends within a three", x.people(1, 9, 3), 0);
         check.due("3: none came", x.count(0), 0);
+        BeesSting few = new BeesSting();
+        Check.row(few, 0, 1, 1, 1, 1, 2, 2, 2);
+        check.due("3: up to the row's end", few.people(0, 3, 8), 1);
+        check.due("3: up to the row's end", few.people(0, 0, 8), 2);
         check.due("3: no more than n", x.people(1, 0, 2), 2);
         check.due("3: cell", x.of(0, 0), 17);
         check.due("3: cheek", x.of(0, 1), 12);
@@ -168,6 +172,14 @@ public final class PeopleTest {
         fault("+1", 0);
         fault("1||2", 2);
         fault("1&", 2);
+        fault("1|", 2);
+        fault("1<", 2);
+        fault("1*", 2);
+        fault("1%", 2);
+        fault("1-", 2);
+        fault("0;1|", 4);
+        fault("1?((((((-1", 8);
+        fault("1;((((((-1", 8);
         fault("!!!!!!!1", 6);
         fault("((((((1))))))+((((((-1", 20);
         fault("-(-(-(-1", 6);
@@ -219,6 +231,12 @@ public final class PeopleTest {
         worth("1<2&2<3", 1);
         worth("(1<2)+(2<1)+(2=2)+(2>1)", 3);
         worth("1<1+1", 1);
+        worth("2>2", 0);
+        worth("1>2", 0);
+        worth("2<2", 0);
+        worth("1=2", 0);
+        worth("1?((((((7))))))", 7);
+        worth("((((((1))))))?8", 8);
         worth("0?5;4", 4);
         worth("2?5;4", 5);
         worth("0;4", 0);
@@ -250,5 +268,14 @@ public final class PeopleTest {
         x.mend(0, 4, 0);
         x.say(0, 1);
         check.due("8: n from 0 in thought", x.loud(0), 7);
+        Check.law(x, "k");
+        x.mend(0, 5, 5);
+        check.due("8: neighbours within a mile", x.loud(0), 1);
+        x.mend(0, 5, 6);
+        check.due("8: neighbours within a longer mile", x.loud(0), 2);
+        x.mend(2, 0, 0x70);
+        check.due("8: neighbours where they stand", x.loud(0), 1);
+        x.person(0x10);
+        check.due("8: neighbours who come", x.loud(0), 2);
     }
 }

@@ -54,14 +54,11 @@ public final class WordsTest {
         x.mend(0, 7, 1);
         x.mend(0, 5, 8);
         check.due("16: too slow to sting him", x.lastWord(1, 1, 0), 0);
-        // loud only far from the swarm: 1 flees it with a lie, as the swarm stays then
-        BeesSting y = Check.parish(0x00, 0x09);
-        Check.law(y, "1");
-        y.mend(0, 5, 9);
-        y.mend(0, 7, 2);
-        y.say(1, 1);
-        y.mend(0, 7, 9);
-        check.due("16: stung at once", y.lastWord(1, 1, 0), 2);
+        // 8 cells away and a cell an hour: a turn each, and 4 hours of stillness
+        check.due("16: n turns in all", x.lastWord(1, 3, 0), 0);
+        check.due("16: and 4 hours", x.lastWord(1, 4, 0), 1);
+        check.due("16: the other one's turns count too", x.lastWord(10, 3, 0), 0);
+        check.due("16: the other one's turns count too", x.lastWord(10, 4, 0), 2);
     }
 
     private static void crier() {
@@ -98,6 +95,7 @@ public final class WordsTest {
         x.mend(3, 1, 0);
         check.due("18: the nearest first", x.keepNear(0), 2);
         check.due("18: another's", x.keepNear(3), 1);
+        check.due("18: the first one", x.keepNear(2), 0);
         x.mend(3, 0, 0x55);
         check.due("18: in his cell", x.keepNear(0), 3);
         check.due("18: one 4", x.keepNear(4), -1);
@@ -135,6 +133,24 @@ public final class WordsTest {
         x.person(0x04);
         Check.bytes(x, 1, 2);
         check.due("19: the least in a cell", x.heard(0, 1, 0), 0);
+        x.mend(0, 4, 0x20);
+        x.mend(1, 0, 0x40);
+        x.mend(0, 6, 9);
+        x.say(1, 1);
+        Check.bytes(x, 0, 2, 2);
+        Check.law(x, "h>9");
+        x.mend(0, 4, 0x20);
+        Check.bytes(x, 1, 8, 1);
+        check.due("19: begins as all is now", x.heard(0, 1, 0), 1);
+        Check.bytes(x, 1, 1, 1);
+        check.due("19: begins as all is now", x.heard(0, 1, 3), 1);
+        check.due("19: fits", x.heard(0, 1, 1), 1);
+        Check.bytes(x, 1, 7);
+        check.due("19: the fewest of none, behind some", x.heard(0, 1, 1), -2);
+        check.due("19: which of none, behind some", x.heard(0, 1, 2), -2);
+        check.due("19: certain of none, behind some", x.heard(0, 1, 3), 0);
+        x.mend(0, 4, 0);
+        x.mend(0, 6, 8);
         Check.law(x, "n");
         Check.bytes(x, 0, 0, 0, 0);
         Check.bytes(x, 1, 8, 8, 0);
@@ -171,6 +187,10 @@ public final class WordsTest {
         BeesSting x = Check.parish(0);
         x.mend(0, 1, 12);
         check.due("20: cheek 12 always lies", x.drawn(5, 340, 0), 120);
+        check.due("20: one saying", x.drawn(5, 101, 0), 1);
+        check.due("20: 30 weeks of 40", x.drawn(5, 3040, 0), 1200);
+        x.say(0, 1);
+        check.due("20: what hurt in deed is no week's", x.drawn(5, 101, -1), 1);
         Check.law(x, "n<3");
         check.due("20: n from 0 in each week", x.drawn(5, 340, 0), 9);
         check.due("20: it hurts", x.drawn(5, 340, -1), 9);
