@@ -7,6 +7,7 @@ public final class WordsTest {
         crier();
         keepNear();
         heard();
+        heardAlike();
         heardWrong();
         drawn();
         check.end();
@@ -157,6 +158,19 @@ public final class WordsTest {
         check.due("19: of like ones the least", x.heard(0, 1, 2), 5);
         check.due("19: ways by n", x.heard(0, 1, 0), 2);
         check.due("19: certain by n", x.heard(0, 1, 3), 4);
+    }
+
+    /** Lies of the second and third saying (6), or of the first and fourth (9), lead the swarm alike. */
+    private static void heardAlike() {
+        BeesSting x = Check.parish(0x05, 0x35);
+        Check.law(x, "k");
+        x.mend(0, 7, 2);
+        Check.bytes(x, 0, 2, 2, 0, 0);
+        Check.bytes(x, 1, 8, 8, 8, 0);
+        check.due("19: ways that look alike", x.heard(0, 1, 0), 5);
+        check.due("19: the fewest lies of these", x.heard(0, 1, 1), 2);
+        check.due("19: the least of these", x.heard(0, 1, 2), 6);
+        check.due("19: nothing is certain of these", x.heard(0, 1, 3), 0);
     }
 
     private static void heardWrong() {
