@@ -1101,29 +1101,32 @@ public final class BeesSting {
             fewest = LONGEST_DAY;
             quiet = 0;
             flights[0].begin(deed);
-            arrange(0, 0);
+            arrange(this, 0, 0);
         }
 
         int placeOf(int k) {
             return k >= 0 && k < MOST_ORDERED ? best[k] : NOT;
         }
 
-        private void arrange(int depth, int used) {
-            Flight ahead = flights[depth];
+        /** Tries all orders that go on from the places tried and used so far. */
+        private static void arrange(Orders all, int depth, int used) {
+            Flight ahead = all.flights[depth];
             // the first of like ones stays, and none that has hurt can be quiet
-            if (ahead.hurts > 0 && ahead.hurts >= fewest) {
+            if (ahead.hurts > 0 && ahead.hurts >= all.fewest) {
                 return;
             }
+            Day day = all.day;
             if (depth >= day.size || depth >= MOST_ORDERED) {
-                take(ahead.hurts);
+                all.take(ahead.hurts);
                 return;
             }
+            Flight behind = all.flights[depth + 1];
             for (int place = 0; place < day.size; place++) {
                 if ((used >> place & 1) == 0) {
-                    tried[depth] = place;
-                    flights[depth + 1].follow(ahead, CROWD);
-                    flights[depth + 1].utter(day.who(place), day.isLie(place));
-                    arrange(depth + 1, used | 1 << place);
+                    all.tried[depth] = place;
+                    behind.follow(ahead, CROWD);
+                    behind.utter(day.who(place), day.isLie(place));
+                    arrange(all, depth + 1, used | 1 << place);
                 }
             }
         }
@@ -1157,23 +1160,24 @@ public final class BeesSting {
             other = another;
             turns = Math.min(times, MOST_TURNS);
             flights[0].begin(deed);
-            stings = play(0, 0);
+            stings = play(this, 0, 0);
         }
 
         /** Who (bits) is stung in the end, if so many turns are over and these have been stung by then. */
-        private int play(int turn, int soFar) {
-            Flight next = flights[turn + 1];
-            next.follow(flights[turn], CROWD);
-            if (turn >= turns) {
-                return soFar | stillness(next);
+        private static int play(LastWord two, int turn, int soFar) {
+            Flight now = two.flights[turn];
+            Flight next = two.flights[turn + 1];
+            next.follow(now, CROWD);
+            if (turn >= two.turns) {
+                return soFar | two.stillness(next);
             }
             boolean isFirst = turn % 2 == 0;
-            int quiet = play(turn + 1, soFar | bit(next.passHour()));
-            next.follow(flights[turn], CROWD);
-            int lied = play(turn + 1, soFar | bit(next.utter(isFirst ? first : other, true)));
+            int quiet = play(two, turn + 1, soFar | two.bit(next.passHour()));
+            next.follow(now, CROWD);
+            int lied = play(two, turn + 1, soFar | two.bit(next.utter(isFirst ? two.first : two.other, true)));
             boolean lies = liking(lied, isFirst) > liking(quiet, isFirst);
             // the first turn ends last, so that its choice stays
-            opening = lies ? 1 : 0;
+            two.opening = lies ? 1 : 0;
             return lies ? lied : quiet;
         }
 
@@ -1224,20 +1228,22 @@ public final class BeesSting {
             which = NOT;
             certain = 0;
             flights[0].begin(deed);
-            guess(0, 0);
+            guess(this, 0, 0);
         }
 
-        private void guess(int i, int lies) {
+        /** Guesses all from the i-th saying on, if these (bits) ahead of it are lies. */
+        private static void guess(Heard all, int i, int lies) {
+            Day day = all.day;
             if (i >= day.size || i >= MOST_HEARD) {
-                take(lies);
+                all.take(lies);
                 return;
             }
+            Flight behind = all.flights[i + 1];
             for (int lie = 0; lie <= 1; lie++) {
-                Flight behind = flights[i + 1];
-                behind.follow(flights[i], CROWD);
+                behind.follow(all.flights[i], CROWD);
                 behind.utter(day.who(i), lie == 1);
-                if (i >= known || parish.whoseCell(behind.swarm) == seen[i]) {
-                    guess(i + 1, lies | lie << i);
+                if (i >= all.known || all.parish.whoseCell(behind.swarm) == all.seen[i]) {
+                    guess(all, i + 1, lies | lie << i);
                 }
             }
         }
